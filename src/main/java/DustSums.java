@@ -566,18 +566,18 @@ public final class DustSums {
         }
     }
 
-    /** A RUN: the SHARES of each V, and what one HAND has SEEN. */
+    /** A RUN: the SHARES of each V, and what one HAND has SEEN. spy() makes thousands, so it is kept lean. */
     private static final class Run {
         private static final int MOST_SEEN = MOST_INPUTS * HANDS + MOST_MULS * (3 + 2 * HANDS) + HANDS;
 
         private final int[] shares = new int[LETTERS * HANDS];
         private final int[] shown = new int[HANDS];
         private final int[] shownOfY = new int[HANDS];
-        private final int[] a = new int[HANDS], b = new int[HANDS], c = new int[HANDS];
+        private final int[] triple = new int[3 * HANDS];
         private final int[] view = new int[MOST_SEEN];
         private final int[] trial = new int[MOST_INPUTS];
         private final int[] plain = new int[LETTERS];
-        private int views, hand, modulus, nextLot, nextInput;
+        private int views, viewAsNumber, hand, modulus, nextLot, nextInput;
 
         /** With the LOTS and LIES that are told, and INPUTS of ROW 0. */
         void go(Task task, int hand) {
@@ -589,18 +589,29 @@ public final class DustSums {
             this.hand = hand;
             modulus = task.modulus;
             views = 0;
+            viewAsNumber = 0;
             nextLot = 0;
             nextInput = 0;
-            Program program = task.program;
-            for (int i = 0; i < program.items; i++) {
-                switch (program.cell(i, WHAT)) {
-                    case IN: cut(program, i, task.inputIn(row, nextInput), lots); break;
-                    case CON: fix(program, i); break;
-                    case ADD: join(program, i, 1); break;
-                    case SUB: join(program, i, -1); break;
-                    case MUL: multiply(program, i, lots, lies); break;
-                    default: showAll(program, i, lies); break;
+            int[] cells = task.program.cells;
+            int end = Math.min(task.program.items * COLUMNS, cells.length - COLUMNS + 1);
+            int lie = 0;
+            for (int cell = 0; cell < end; cell += COLUMNS) {
+                int first = cells[cell + FIRST] * HANDS;
+                int second = cells[cell + SECOND] * HANDS;
+                int third = cells[cell + THIRD] * HANDS;
+                switch (cells[cell + WHAT]) {
+                    case IN: cut(first, cells[cell + NUMBER] == hand, task.inputIn(row, nextInput), lots); break;
+                    case CON: fix(first, cells[cell + NUMBER]); break;
+                    case ADD: join(first, second, third, 1); break;
+                    case SUB: join(first, second, third, -1); break;
+                    case MUL:
+                        drawTriple(lots);
+                        showLessTriple(second, third, lies, lie);
+                        multiply(first);
+                        break;
+                    default: showAll(first, lies, lie); break;
                 }
+                lie += HANDS;
             }
         }
 
@@ -612,11 +623,14 @@ public final class DustSums {
             return mod(at(shown, 0) + at(shown, 1) + at(shown, 2), modulus);
         }
 
-        private void setShare(int letter, int hand, int v) {
-            put(shares, letter * HANDS + hand, mod(v, modulus));
+        /** Whether the SHARES of a V may stand there. */
+        private boolean isPlace(int place) {
+            return place >= 0 && place <= shares.length - HANDS;
         }
 
+        /** All that was SEEN is one number, too; wherever spy() may look, it is below 2 to the 27. */
         private void look(int v) {
+            viewAsNumber = viewAsNumber * modulus + v;
             put(view, views, v);
             views++;
         }
@@ -627,90 +641,71 @@ public final class DustSums {
             return v;
         }
 
-        private void cut(Program program, int item, int input, int[] lots) {
+        private void cut(int to, boolean own, int input, int[] lots) {
             nextInput++;
-            int letter = program.cell(item, FIRST);
-            int first = drawLot(lots);
-            int second = drawLot(lots);
-            setShare(letter, 0, first);
-            setShare(letter, 1, second);
-            setShare(letter, 2, input - first - second);
-            if (program.cell(item, NUMBER) == hand) {
-                for (int h = 0; h < HANDS; h++) look(shareOf(letter, h));
-            } else {
-                look(shareOf(letter, hand));
-            }
-        }
-
-        private void fix(Program program, int item) {
-            int letter = program.cell(item, FIRST);
-            setShare(letter, 0, program.cell(item, NUMBER));
-            setShare(letter, 1, 0);
-            setShare(letter, 2, 0);
-        }
-
-        private void join(Program program, int item, int sign) {
-            int letter = program.cell(item, FIRST);
-            int x = program.cell(item, SECOND);
-            int y = program.cell(item, THIRD);
+            int share0 = drawLot(lots);
+            int share1 = drawLot(lots);
+            if (!isPlace(to)) return;
+            shares[to] = share0;
+            shares[to + 1] = share1;
+            shares[to + 2] = mod(input - share0 - share1, modulus);
             for (int h = 0; h < HANDS; h++) {
-                setShare(letter, h, shareOf(x, h) + sign * shareOf(y, h));
+                if (own || h == hand) look(shares[to + h]);
             }
         }
 
-        private void multiply(Program program, int item, int[] lots, int[] lies) {
-            drawTriple(lots);
-            int letter = program.cell(item, FIRST);
-            int x = program.cell(item, SECOND);
-            int y = program.cell(item, THIRD);
-            int d = 0;
-            int e = 0;
-            for (int h = 0; h < HANDS; h++) {
-                put(shown, h, mod(shareOf(x, h) - at(a, h) + at(lies, item * HANDS + h), modulus));
-                put(shownOfY, h, mod(shareOf(y, h) - at(b, h), modulus));
-                d += at(shown, h);
-                e += at(shownOfY, h);
-            }
-            for (int h = 0; h < HANDS; h++) {
-                int extra = h == 0 ? d * e : 0;
-                setShare(letter, h, at(c, h) + d * at(b, h) + e * at(a, h) + extra);
-            }
-            look(at(a, hand));
-            look(at(b, hand));
-            look(at(c, hand));
-            for (int h = 0; h < HANDS; h++) look(at(shown, h));
-            for (int h = 0; h < HANDS; h++) look(at(shownOfY, h));
+        private void fix(int to, int number) {
+            if (!isPlace(to)) return;
+            shares[to] = mod(number, modulus);
+            shares[to + 1] = 0;
+            shares[to + 2] = 0;
         }
 
+        private void join(int to, int x, int y, int sign) {
+            if (!isPlace(to) || !isPlace(x) || !isPlace(y)) return;
+            for (int h = 0; h < HANDS; h++) {
+                shares[to + h] = mod(shares[x + h] + sign * shares[y + h], modulus);
+            }
+        }
+
+        /** The a's, then the b's, then the c's. */
         private void drawTriple(int[] lots) {
-            int aAll = 0;
-            int bAll = 0;
-            for (int h = 0; h < HANDS; h++) {
-                put(a, h, drawLot(lots));
-                aAll += at(a, h);
-            }
-            for (int h = 0; h < HANDS; h++) {
-                put(b, h, drawLot(lots));
-                bAll += at(b, h);
-            }
-            put(c, 0, drawLot(lots));
-            put(c, 1, drawLot(lots));
-            put(c, 2, mod(aAll * bAll - at(c, 0) - at(c, 1), modulus));
+            for (int i = 0; i < LOTS_OF_MUL; i++) put(triple, i, drawLot(lots));
+            int aAll = triple[0] + triple[1] + triple[2];
+            int bAll = triple[3] + triple[4] + triple[5];
+            triple[8] = mod(aAll * bAll - triple[6] - triple[7], modulus);
         }
 
-        private void showAll(Program program, int item, int[] lies) {
-            int letter = program.cell(item, FIRST);
+        private void showLessTriple(int x, int y, int[] lies, int lie) {
+            if (!isPlace(x) || !isPlace(y)) return;
             for (int h = 0; h < HANDS; h++) {
-                put(shown, h, mod(shareOf(letter, h) + at(lies, item * HANDS + h), modulus));
-                look(at(shown, h));
+                shown[h] = mod(shares[x + h] - triple[h] + at(lies, lie + h), modulus);
+                shownOfY[h] = mod(shares[y + h] - triple[HANDS + h], modulus);
+            }
+            for (int i = hand; i < triple.length; i += HANDS) look(at(triple, i));
+            for (int h = 0; h < HANDS; h++) look(shown[h]);
+            for (int h = 0; h < HANDS; h++) look(shownOfY[h]);
+        }
+
+        private void multiply(int to) {
+            if (!isPlace(to)) return;
+            int d = shown[0] + shown[1] + shown[2];
+            int e = shownOfY[0] + shownOfY[1] + shownOfY[2];
+            int extra = d * e;
+            for (int h = 0; h < HANDS; h++) {
+                int share = triple[2 * HANDS + h] + d * triple[HANDS + h] + e * triple[h];
+                shares[to + h] = mod(share + extra, modulus);
+                // D times E is HAND 0's alone.
+                extra = 0;
             }
         }
 
-        /** All that was SEEN as one number; wherever spy() may look, it is below 2 to the 27. */
-        int viewAsNumber() {
-            int number = 0;
-            for (int k = 0; k < views; k++) number = number * modulus + at(view, k);
-            return number;
+        private void showAll(int from, int[] lies, int lie) {
+            if (!isPlace(from)) return;
+            for (int h = 0; h < HANDS; h++) {
+                shown[h] = mod(shares[from + h] + at(lies, lie + h), modulus);
+                look(shown[h]);
+            }
         }
 
         /** TELLS: without LIES the SHARES never matter for THE END, so none are cut. */
@@ -787,7 +782,7 @@ public final class DustSums {
             for (int way = 0; way < ways; way++) {
                 run.go(task, hand, 0, lots, null);
                 // 0 stands for an empty slot.
-                int key = run.viewAsNumber() + 1;
+                int key = run.viewAsNumber + 1;
                 int slot = slotOf(key);
                 if (at(keys, slot) == 0) {
                     put(keys, slot, key);
@@ -803,7 +798,7 @@ public final class DustSums {
             wipe(lots);
             for (int way = 0; way < ways; way++) {
                 run.go(task, hand, 1, lots, null);
-                int slot = slotOf(run.viewAsNumber() + 1);
+                int slot = slotOf(run.viewAsNumber + 1);
                 int left = at(times, slot);
                 if (left == 0) return true;
                 put(times, slot, left - 1);
