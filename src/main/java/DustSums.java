@@ -934,28 +934,24 @@ public final class DustSums {
         }
 
         /**
-         * The secret (what = 0) or the LIARS (1) of the heights taken, as of a degree. The best CURVE goes
-         * through more than degree of them, so it is found from some base of degree + 1 HANDS; two CURVES
-         * of that kind agree with unlike HANDS. A set too small for a base has many best CURVES.
+         * The secret (what = 0) or the LIARS (1) of the heights taken, as of a degree. A CURVE that may be
+         * OPENED goes through more than degree of them, so it is found from some base of degree + 1 HANDS.
+         * Two CURVES share degree HANDS at most: where m is enough, no other CURVE agrees with as many.
          */
         int opened(int set, int degree, int what) {
             int best = 0;
             int bestBase = 0;
-            boolean alone = false;
             for (int base = 1; base <= set; base++) {
                 if ((base & ~set) != 0 || Integer.bitCount(base) != degree + 1) continue;
                 int agree = agreeing(set, base);
-                int more = Integer.bitCount(agree) - Integer.bitCount(best);
-                if (more > 0) {
+                if (Integer.bitCount(agree) > Integer.bitCount(best)) {
                     best = agree;
                     bestBase = base;
-                    alone = true;
-                } else if (more == 0 && agree != best) {
-                    alone = false;
                 }
             }
-            int enough = 2 * (Integer.bitCount(best) - degree) - (Integer.bitCount(set) - degree);
-            if (!alone || enough <= 0) return NONE;
+            int m = Integer.bitCount(best);
+            int s = Integer.bitCount(set);
+            if (2 * (m - degree) <= s - degree) return NONE;
             return what == 0 ? heightAt(0, bestBase) : set & ~best;
         }
 

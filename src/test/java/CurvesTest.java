@@ -22,6 +22,7 @@ public final class CurvesTest {
     private static void fields() {
         DustSums x = new DustSums();
         for (int bad : new int[] {-1, 3, Integer.MIN_VALUE, Integer.MAX_VALUE}) due("field " + bad, x.field(bad, 5), -1);
+        for (int v = 0; v < 14; v++) due("field 3 " + v, x.field(3, v), -1);
         for (int bad : new int[] {-7, 0, 1, 2, 3, 4, 6, 8, 9, 10, 12, 14, 17, Integer.MIN_VALUE, Integer.MAX_VALUE}) {
             due("Q " + bad, x.field(0, bad), -1);
         }
@@ -34,6 +35,8 @@ public final class CurvesTest {
         due("n 6 is not below 5", x.field(2, 6), -1);
         due("n 3", x.field(2, 3), 4);
         due("Q 13", x.field(0, 13), 5);
+        due("n 2", x.field(2, 2), -1);
+        due("n 7", x.field(2, 7), -1);
         due("n 6", x.field(2, 6), 3);
         due("Q 11", x.field(0, 11), 13);
         due("Q 7", x.field(0, 7), 11);

@@ -143,6 +143,11 @@ public final class ProgramsTest {
             fault(" in A" + c, 5);
             fault("con A 0;out A;" + c, 14);
         }
+        for (char c : new char[] {'@', 'Q', 'Z', 'a', '0'}) {
+            fault("in " + c + " 0;", 3);
+            fault("con A 0;add B " + c + " A;", 14);
+            fault("con A 0;out " + c + ";", 12);
+        }
         // words
         for (String word : new String[] {"i", "inn", "ins", "co", "cons", "conn", "ad", "adds", "su", "subs", "mu", "mulm",
                 "ou", "outt", "o", "nim", "zin", "coninin", "aaaaaaaaain", "abcdeout", "con\u0061"}) {

@@ -8,12 +8,15 @@ public final class RunsTest {
 
     public static void main(String[] args) {
         ends();
+        longProgram();
         shares();
+        sharesOfAnotherProgram();
         seen();
         liesSeen();
         spies();
         spyLimits();
         tells();
+        tellsOfPrograms();
         tellsLimits();
         CHECKS.close();
     }
@@ -32,6 +35,45 @@ public final class RunsTest {
                 due("a a less b b less 15", x.end(), Math.floorMod(a * a - b * b - 15, m));
             }
         }
+    }
+
+    /** As many ITEMS, INPUTS and mul's as there may be, up to the last letter and the last LOT. */
+    private static void longProgram() {
+        DustSums x = Checks.with("in P 2;in O 0;in N 1;in M 2;mul L P O;mul K L N;mul J K M;mul I J P;con H 9;add G I H;"
+            + "sub F G P;con E 14;add D F E;sub C D O;sub B C N;out B;");
+        x.modulus(16);
+        int[] numbers = {3, 5, 7, 11};
+        for (int i = 0; i < 4; i++) x.input(i, 0, numbers[i]);
+        int due = 3 * 5 * 7 * 11 * 3 + 9 - 3 + 14 - 5 - 7;
+        due("16 items", x.end(), due % 16);
+        for (int i = 0; i < 40; i++) x.lot(i, (i * 7 + 3) % 16);
+        due("16 items, by other lots", x.end(), due % 16);
+        int old = x.share(7, 0);
+        x.lot(38, (38 * 7 + 3 + 1) % 16);
+        due("the last but one lot is c0", x.share(7, 0), (old + 1) % 16);
+        old = x.share(7, 1);
+        x.lot(39, (39 * 7 + 3 + 1) % 16);
+        due("the last lot is c1", x.share(7, 1), (old + 1) % 16);
+        due("the end stays", x.end(), due % 16);
+        due("the first letter from the end", x.share(0, 2), Math.floorMod(3 - 3 - 10, 16));
+        due("out of 16", x.share(15, 0), x.share(14, 0));
+        x.lie(15, 2, 15);
+        due("a lie in the last item", x.end(), (due + 15) % 16);
+        Checks.load(x, "con A 1;in P 0;out P;");
+        x.input(0, 0, 13);
+        due("out P", x.end(), 13);
+    }
+
+    private static void sharesOfAnotherProgram() {
+        DustSums x = Checks.with("in A 0;out A;");
+        x.input(0, 0, 4);
+        x.lot(0, 1);
+        x.lot(1, 1);
+        row("A 4", x, 0, 1, 1, 2);
+        Checks.load(x, "con A 3;out A;");
+        row("A 3", x, 0, 3, 0, 0);
+        row("out A", x, 1, 3, 0, 0);
+        due("end", x.end(), 3);
     }
 
     private static void row(String name, DustSums x, int item, int... want) {
@@ -88,7 +130,11 @@ public final class RunsTest {
         row(Checks.with("con A 13;out A;"), 2, 3, 0, 0);
         DustSums most = Checks.with("in A 0;in B 0;in C 0;in D 0;mul E A B;mul F C D;mul G E F;mul H G G;out H;");
         due("most that can be seen", most.seen(0, -1), 51);
-        due("its last", most.seen(0, 50), 0);
+        for (int i = 0; i < 4; i++) most.input(i, 0, 1);
+        most.lie(8, 2, 3);
+        due("its last", most.seen(0, 50), (most.share(7, 2) + 3) % 5);
+        most.lie(8, 2, 1);
+        due("its last, bent once more", most.seen(0, 50), (most.share(7, 2) + 4) % 5);
         due("behind its last", most.seen(0, 51), -1);
         due("by others", most.seen(1, -1), 43);
     }
@@ -143,6 +189,16 @@ public final class RunsTest {
         due("0 times 0 is 1 times 0", product.spy(1, 0), 0);
         due("0 times 0 is 1 times 0, for 2", product.spy(2, 0), 0);
         due("0 put it in", product.spy(0, 0), 1);
+        // what was watched for another state must not be taken for this one's
+        DustSums twice = Checks.with("in A 0;out A;");
+        twice.modulus(2);
+        twice.input(0, 0, 1);
+        due("rows of 1", twice.spy(1, 1), 4);
+        twice.input(0, 0, 0);
+        twice.input(0, 1, 1);
+        due("0 or 1", twice.spy(1, 0), 1);
+        due("0 or 1 again", twice.spy(1, 0), 1);
+        due("rows of 0", twice.spy(1, 1), 4);
         for (int bad : new int[] {-1, 3, Integer.MIN_VALUE, Integer.MAX_VALUE}) due("spy " + bad, x.spy(bad, 0), -1);
         for (int bad : new int[] {-1, 2, Integer.MIN_VALUE, Integer.MAX_VALUE}) due("spy what " + bad, x.spy(0, bad), -1);
     }
@@ -201,6 +257,37 @@ public final class RunsTest {
         due("others try", own.tells(0, 1), 5);
         for (int bad : new int[] {-1, 3, Integer.MIN_VALUE, Integer.MAX_VALUE}) due("tells " + bad, x.tells(bad, 0), -1);
         for (int bad : new int[] {-1, 2, Integer.MIN_VALUE, Integer.MAX_VALUE}) due("tells what " + bad, x.tells(0, bad), -1);
+    }
+
+    /** Hand 2 has no input: how many numbers (or pairs) give the end of ROW 0, for each that may stand there. */
+    private static void tellsOfPrograms() {
+        DustSums x = Checks.with("in A 0;mul B A A;add C B A;out C;");
+        // a a and a, modulo 5: 0 2 1 2 0
+        int[] want = {2, 2, 1, 2, 2};
+        for (int a = 0; a < 5; a++) {
+            x.input(0, 0, a);
+            due("a a and a as of " + a, x.tells(2, 0), want[a]);
+        }
+        Checks.load(x, "in A 0;mul B A A;sub C B A;out C;");
+        // a a less a, modulo 5: 0 0 2 1 2
+        want = new int[] {2, 2, 2, 1, 2};
+        for (int a = 0; a < 5; a++) {
+            x.input(0, 0, a);
+            due("a a less a as of " + a, x.tells(2, 0), want[a]);
+        }
+        Checks.load(x, "in A 0;con B 2;mul C A B;out C;");
+        x.modulus(6);
+        due("2 a is 0 modulo 6", x.tells(2, 0), 2);
+        Checks.load(x, "in A 0;in B 1;mul C A B;out C;");
+        due("a b is 0 modulo 6", x.tells(2, 0), 15);
+        x.input(0, 0, 15);
+        x.input(1, 0, 3);
+        due("a b is 3 modulo 6", x.tells(2, 0), 5);
+        due("with a 3", x.tells(0, 0), 3);
+        x.input(0, 0, 1);
+        x.input(1, 0, 1);
+        due("a b is 1 modulo 6", x.tells(2, 0), 2);
+        due("with a 1", x.tells(0, 0), 1);
     }
 
     private static void tellsLimits() {
