@@ -21,7 +21,7 @@ public final class DustSums {
     private final Trades trades = new Trades();
     private final Curve curve = new Curve();
     private final Months months = new Months();
-    private Spy spies;
+    private final Spy spies = new Spy();
     private long trace;
 
     public DustSums() {
@@ -112,8 +112,6 @@ public final class DustSums {
         int ways = waysOf(task.modulus, task.program.lotsTaken());
         if (ways > MOST_WAYS) return STATE;
         if (what == 0 && task.rowsAreAlike()) return 0;
-        // Its rows are long, and most objects are never asked for it.
-        if (spies == null) spies = new Spy();
         spies.watchFirstRow(task, run, hand, ways);
         if (what == 1) return spies.unlike;
         return spies.secondRowDiffers(task, run, hand, ways) ? 1 : 0;
@@ -768,27 +766,28 @@ public final class DustSums {
     /** SPY: how often each row of what is SEEN comes, kept in a table by hashes. */
     private static final class Spy {
         private static final int BITS = 13, SLOTS = 1 << BITS, SPREAD = 0x9E3779B1;
+        /** No row comes more often than MOST_WAYS, so these bits of a slot hold how often. */
+        private static final int TIMES_BITS = 13, TIMES = (1 << TIMES_BITS) - 1;
 
-        private final int[] keys = new int[SLOTS];
-        private final int[] times = new int[SLOTS];
+        /** A slot is a key and, in its lowest bits, how often it came: one row, as every object bears it. */
+        private final long[] slots = new long[SLOTS];
         private final int[] lots = new int[MOST_LOTS];
         private int unlike;
 
         void watchFirstRow(Task task, Run run, int hand, int ways) {
-            wipe(keys);
-            wipe(times);
+            Arrays.fill(slots, 0L);
             wipe(lots);
             unlike = 0;
             for (int way = 0; way < ways; way++) {
                 run.go(task, hand, 0, lots, null);
-                // 0 stands for an empty slot.
-                int key = run.viewAsNumber + 1;
+                int key = keyOf(run);
                 int slot = slotOf(key);
-                if (at(keys, slot) == 0) {
-                    put(keys, slot, key);
+                long there = slotAt(slot);
+                if (there == 0) {
+                    there = (long) key << TIMES_BITS;
                     unlike++;
                 }
-                put(times, slot, at(times, slot) + 1);
+                putSlot(slot, there + 1);
                 turnLots(task);
             }
         }
@@ -798,21 +797,34 @@ public final class DustSums {
             wipe(lots);
             for (int way = 0; way < ways; way++) {
                 run.go(task, hand, 1, lots, null);
-                int slot = slotOf(run.viewAsNumber + 1);
-                int left = at(times, slot);
-                if (left == 0) return true;
-                put(times, slot, left - 1);
+                int slot = slotOf(keyOf(run));
+                long there = slotAt(slot);
+                if ((there & TIMES) == 0) return true;
+                putSlot(slot, there - 1);
                 turnLots(task);
             }
             return false;
+        }
+
+        /** 0 stands for an empty slot. */
+        private static int keyOf(Run run) {
+            return run.viewAsNumber + 1;
+        }
+
+        private long slotAt(int slot) {
+            return slot >= 0 && slot < slots.length ? slots[slot] : 0;
+        }
+
+        private void putSlot(int slot, long v) {
+            if (slot >= 0 && slot < slots.length) slots[slot] = v;
         }
 
         /** The key's slot or the empty one where it belongs; half of all slots stay empty. */
         private int slotOf(int key) {
             int slot = key * SPREAD >>> 32 - BITS;
             for (int tries = 0; tries < SLOTS; tries++) {
-                int there = at(keys, slot);
-                if (there == key || there == 0) return slot;
+                long there = slotAt(slot);
+                if (there == 0 || there >>> TIMES_BITS == key) return slot;
                 slot = slot + 1 & SLOTS - 1;
             }
             return slot;

@@ -108,6 +108,10 @@ public final class FaceTest {
         int divisions = 0;
         while (remainders.find()) divisions++;
         CHECKS.due("one division in all, behind its test", divisions, 1);
+        for (String line : code.split("\n")) {
+            boolean makes = Pattern.compile("\\bnew\\b|\\bclone\\b|copyOf|= \\{").matcher(line).find();
+            if (makes) holds("rule 12: made with the object:" + line, line.matches(" {4,8}private final .* = .*;"));
+        }
         methodLengths(code);
     }
 
