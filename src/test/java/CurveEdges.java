@@ -88,6 +88,7 @@ final class CurveEdges extends Edges {
             due("month", x.count(5), 0);
             due("taken", x.count(7), 0);
             due("known", x.known(0), 0);
+            due("safe", x.known(1), change[0] == 1 ? change[1] : 1);
         }
     }
 

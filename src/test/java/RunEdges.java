@@ -237,6 +237,19 @@ final class RunEdges extends Edges {
         for (int i = 0; i < 5; i++) due("item " + i, sums[i] % 5, due[i] % 5);
     }
 
+    /** A V that the program before cut into three is HAND 0's alone, once it is a con. */
+    static void promise12_nothingIsLeftOfTheProgramBefore() {
+        DustSums x = with("in A 0;out A;");
+        x.input(0, 0, 4);
+        x.lot(0, 1);
+        x.lot(1, 1);
+        int[] cut = {1, 1, 2};
+        for (int hand = 0; hand < 3; hand++) due("in", x.share(0, hand), cut[hand]);
+        load(x, "con A 3;out A;");
+        for (int hand = 0; hand < 3; hand++) due("con", x.share(0, hand), hand == 0 ? 3 : 0);
+        due("end", x.end(), 3);
+    }
+
     // ---- 13: seen
 
     static void promise13_handsAre0To2() {
@@ -256,6 +269,22 @@ final class RunEdges extends Edges {
         range("k of 51", program(most), (x, k) -> x.seen(0, k), -1, 50);
         range("k of 43", program(most), (x, k) -> x.seen(1, k), -1, 42);
         refused("one behind 51", program(most), x -> x.seen(0, 51), -1);
+    }
+
+    /** The most that can be seen, up to the last: it is what HAND 2 shows of out. */
+    static void promise13_theLastOf51() {
+        DustSums x = with("in A 0;in B 0;in C 0;in D 0;mul E A B;mul F C D;mul G E F;mul H G G;out H;");
+        x.modulus(16);
+        for (int i = 0; i < 4; i++) x.input(i, 0, 2 * i + 1);
+        for (int i = 0; i < 40; i++) x.lot(i, (i * 7 + 3) % 16);
+        for (int hand = 0; hand < 3; hand++) {
+            int last = x.seen(hand, -1) - 1;
+            due("the last place", last, hand == 0 ? 50 : 42);
+            for (int shown = 0; shown < 3; shown++) due("shown", x.seen(hand, last - 2 + shown), x.share(8, shown));
+            x.lie(8, 2, 1);
+            due("bent", x.seen(hand, last), (x.share(7, 2) + hand + 1) % 16);
+        }
+        due("1 by 3 by 5 by 7, by itself", x.end(), (105 * 105 + 3) % 16);
     }
 
     static void promise13_howManyOfEachItem() {

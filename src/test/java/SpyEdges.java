@@ -122,6 +122,11 @@ final class SpyEdges extends Edges {
             for (int hand = 0; hand < 3; hand++) due(m + " is 0", x.spy(hand, 0), 0);
             x.input(0, 1, m - 1);
             for (int hand = 0; hand < 3; hand++) due(m - 1 + " is not", x.spy(hand, 0), 1);
+            x.input(0, 0, m - 1);
+            for (int hand = 0; hand < 3; hand++) due("as the other row", x.spy(hand, 0), 0);
+            x.input(0, 1, m);
+            for (int hand = 0; hand < 3; hand++) due("the other way round", x.spy(hand, 0), 1);
+            x.input(0, 0, 0);
         }
     }
 
@@ -268,6 +273,43 @@ final class SpyEdges extends Edges {
         x.modulus(2);
         due("modulo 2", x.tells(1, 0), 1);
         due("all modulo 2", x.tells(1, 1), 2);
+    }
+
+    /** "rows of all other INPUTS (0 .. M - 1 each)": each of them is tried once, with the least and the greatest M. */
+    static void promise15_everyRowOfOthersIsTried() {
+        DustSums x = with("in A 0;in B 1;mul C A B;sub D C A;add E D B;out E;");
+        for (int m = 2; m <= 16; m++) {
+            x.modulus(m);
+            for (int b = 0; b < 2; b++) {
+                x.input(0, 0, 2);
+                x.input(1, 0, b);
+                int same = 0;
+                for (int pair = 0; pair < m * m; pair++) {
+                    int first = pair / m;
+                    int second = pair % m;
+                    if (Math.floorMod(first * second - first + second - 2 * (b - 1) - b, m) == 0) same++;
+                }
+                due("pairs modulo " + m, x.tells(2, 0), same);
+            }
+        }
+    }
+
+    /** Own INPUTS keep their number wherever they stand among the others. */
+    static void promise15_ownInputsAheadAndBehind() {
+        for (int own = 0; own < 4; own++) {
+            StringBuilder text = new StringBuilder();
+            for (int i = 0; i < 4; i++) text.append("in ").append((char) ('A' + i)).append(i == own ? " 1;" : " 0;");
+            char v = (char) ('A' + own);
+            char other = own == 3 ? 'A' : 'D';
+            DustSums x = with(text + "mul E " + v + " " + other + ";out E;");
+            for (int i = 0; i < 4; i++) x.input(i, 0, 1);
+            x.modulus(6);
+            int[] same = {216, 36, 72, 108, 72, 36};
+            for (int number = 0; number < 6; number++) {
+                x.input(own, 0, number);
+                due(number + " times another", x.tells(1, 0), same[number]);
+            }
+        }
     }
 
     /** "(no LIES)". */

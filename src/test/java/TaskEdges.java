@@ -80,6 +80,15 @@ final class TaskEdges extends Edges {
         for (int i = 0; i < 10; i++) due("item " + i, x.item(i, 5), deep[i]);
     }
 
+    /** A V that was deep in the program before is not, once it is a con. */
+    static void promise05_noDepthIsLeftOfTheProgramBefore() {
+        DustSums x = with("con A 1;mul B A A;mul C B B;out C;");
+        due("out", x.item(3, 5), 3);
+        load(x, "con C 1;in B 0;add A B C;mul D C B;out A;");
+        int[] deep = {0, 0, 0, 1, 1};
+        for (int i = 0; i < 5; i++) due("item " + i, x.item(i, 5), deep[i]);
+    }
+
     // ---- 6: modulus
 
     /** "M (2 .. 16". */

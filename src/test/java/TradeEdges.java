@@ -131,7 +131,18 @@ final class TradeEdges extends Edges {
         least(x, 99, 3996, 0);
     }
 
-    /** The price of talk is too dear where there are rounds enough, and NONE is told where neither fits. */
+    /** A V that was deep in the program before takes no rounds, once it is a con. */
+    static void promise17_nothingIsLeftOfTheProgramBefore() {
+        DustSums x = with(CHAIN);
+        least(x, 5, 56, 0);
+        load(x, "con E 1;out E;");
+        least(x, 1, 0, 0);
+        load(x, "in E 0;mul A E E;out A;");
+        least(x, 1, -9, -9);
+        least(x, 2, 14, 0);
+    }
+
+    /** NONE is told of the price and of the set, and changes nothing. */
     static void promise17_noneForBoth() {
         refused("a price", program(CHAIN), x -> x.least(4, 0), -9);
         refused("a set", program(CHAIN), x -> x.least(4, 1), -9);
