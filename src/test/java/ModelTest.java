@@ -8,6 +8,7 @@ public final class ModelTest {
     private final Random random;
     private final DustSums x = new DustSums();
     private final Model model = new Model();
+    private int calls;
 
     private ModelTest(long seed) {
         random = new Random(seed);
@@ -19,20 +20,19 @@ public final class ModelTest {
     }
 
     private void run(int run) {
-        int calls = 0;
         // some runs stay with one part of the document, most go through all
         int theme = run % 8;
-        while (calls < CALLS) {
+        while (calls < CALLS - 1) {
             if (random.nextInt(theme == 1 ? 3 : 25) == 0) {
-                calls += typeProgram(run, CALLS - calls);
+                typeProgram(run);
             } else {
                 call(run, theme);
-                calls++;
             }
         }
     }
 
     private void due(int run, String call, long got, long want) {
+        calls++;
         CHECKS.due("run " + run + " " + call, got, want);
     }
 
@@ -79,7 +79,7 @@ public final class ModelTest {
                 due(run, "lot " + i + " " + a, x.lot(i, a), model.lot(i, a));
             }
             case 5 -> {
-                int item = random.nextBoolean() ? x.count(0) - 1 : a;
+                int item = random.nextBoolean() ? model.count(0) - 1 : a;
                 int v = pick(1, 15);
                 due(run, "lie " + item + " " + hand + " " + v, x.lie(item, hand, v), model.lie(item, hand, v));
                 if (random.nextInt(9) == 0) due(run, "honest", x.honest(), model.honest());
@@ -153,12 +153,11 @@ public final class ModelTest {
         }
     }
 
-    /** Types a program, mostly a good one, and tells how many calls that took. */
-    private int typeProgram(int run, int most) {
+    /** Types a program, mostly a good one, as far as an object's calls reach. */
+    private void typeProgram(int run) {
         String text = goodProgram();
         if (random.nextInt(3) == 0) text = spoiled(text);
-        int calls = 0;
-        for (int i = 0; i < text.length() && calls < most; calls++) {
+        for (int i = 0; i < text.length() && calls < CALLS - 2;) {
             int n = Math.min(1 + random.nextInt(8), text.length() - i);
             long v = random.nextLong();
             for (int k = 0; k < n; k++) v = v << 8 | text.charAt(i + k);
@@ -167,7 +166,6 @@ public final class ModelTest {
         }
         due(run, "program of " + text, x.program(), model.program());
         if (random.nextInt(10) != 0) due(run, "clear", x.clear(), model.clear());
-        return calls + 2;
     }
 
     private String goodProgram() {

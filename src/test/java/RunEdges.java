@@ -134,8 +134,8 @@ final class RunEdges extends Edges {
 
     /** "SHARES of HANDS 0, 1 are the next two LOTS, HAND 2 has the rest": a rest below 0, too. */
     static void promise12_theRestOfAnInputPasses0() {
-        DustSums x = with("in A 0;out A;");
         for (int m = 2; m <= 16; m++) {
+            DustSums x = with("in A 0;out A;");
             x.modulus(m);
             for (int lot : new int[] {0, 1, m - 1}) {
                 for (int input : new int[] {0, m - 1}) {

@@ -22,8 +22,8 @@ public final class RunsTest {
     }
 
     private static void ends() {
-        DustSums x = Checks.with("in A 0;in B 1;add C A B;sub D A B;mul E C D;con F 15;sub G E F;out G;");
         for (int m = 2; m <= 16; m++) {
+            DustSums x = Checks.with("in A 0;in B 1;add C A B;sub D A B;mul E C D;con F 15;sub G E F;out G;");
             x.modulus(m);
             for (int round = 0; round < 8; round++) {
                 int a = (round * 7 + m) % 16;
